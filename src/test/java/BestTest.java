@@ -7,6 +7,7 @@ public final class BestTest {
         oneClerk();
         trainsBind();
         likeOnes();
+        fullJar();
         spend();
         spendFull();
         share();
@@ -71,6 +72,18 @@ public final class BestTest {
         row(x, "20: a minute that costs nothing between two", 0, 10, 1, -1, 1);
         Due.town(x, "c2w5,c5w5");
         row(x, "20: laid, taken and laid for like GAIN: the least numbers stand first", 0, 5, 0, 0, 0, 0, 0, 1);
+    }
+
+    private static void fullJar() {
+        JarMinutes x = new JarMinutes();
+        x.set(0, 99);
+        Due.town(x, "k12w99");
+        for (int hour = 0; hour < 24; hour++) {
+            x.loss(hour, 99);
+        }
+        row(x, "20: all 99 of the jar", 0, 8331, 0, 0, 0, 5, 5, 5, 5, 5, 5, 5, 5, 5, 5, 5, 5, 5, 5, 5, 5, 5, 5, 5, 4);
+        Due.due("21: all 99 of the jar", x.spend(1), 8331);
+        Due.due("21: it is empty", x.is(0), 0);
     }
 
     private static void spend() {
