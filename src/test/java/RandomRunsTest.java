@@ -2,8 +2,9 @@ import java.util.Random;
 
 /** All promises: runs of calls from fixed seeds, each answer held against the model's. */
 public final class RandomRunsTest {
-    private static final int RUNS = Integer.getInteger("runs", 300);
-    private static final int CALLS = 512;
+    private static final int RUNS = Integer.getInteger("runs", 600);
+    /** An object is used for 512 calls at most; the longest round of calls here takes 40. */
+    private static final int CALLS = 512 - 40;
     private static final int[] EDGES = {-1, -2, -3, -13, 24, 25, 100, 2147483647, -2147483648, 2147483646};
 
     private final Random random;
@@ -15,6 +16,7 @@ public final class RandomRunsTest {
     private int seenSheet;
     private int seenLane;
     private int lastMade;
+    private int made;
 
     private RandomRunsTest(int run) {
         this.run = run;
@@ -25,7 +27,7 @@ public final class RandomRunsTest {
     public static void main(String[] args) {
         for (int run = 0; run < RUNS; run++) {
             RandomRunsTest test = new RandomRunsTest(run);
-            for (int call = 0; call < CALLS; call++) {
+            for (int call = 0; test.made < CALLS; call++) {
                 test.call(call);
             }
         }
@@ -44,6 +46,7 @@ public final class RandomRunsTest {
     }
 
     private void due(int call, String name, long got, long want) {
+        made++;
         Due.due("run " + run + ", call " + call + ": " + name, got, want);
     }
 
