@@ -24,6 +24,7 @@ public final class EdgesLotsTest {
         imageOfNobody();
         imageOfAFullTown();
         imageIsNoTwin();
+        daysCanBeRestored();
         sheetsAndTapeStay();
         Due.end();
     }
@@ -389,28 +390,52 @@ public final class EdgesLotsTest {
         JarMinutes x = new JarMinutes();
         Due.town(x, "c5w9");
         x.train(7, 2);
+        x.lay(5, 1);
+        x.day();
+        x.lay(5, 0);
         x.image();
         for (int times = 0; times < 2; times++) {
+            x.day();
             x.may(0, 0);
             x.lay(5, 5);
             x.loss(5, 99);
             x.strike();
             x.train(9, 9);
-            x.set(0, 3);
+            x.set(0, 30);
+            Due.due("19: a DAY in vain", x.day(), 0);
+            x.may(0, 1);
+            Due.due("19: a DAY that will not have been", x.day(), 45);
             x.person(1, 2, 3);
             Due.due("28: restore", x.restore(), 1);
             Due.due("28: he may act", x.told(0, 3), 1);
             Due.due("28: one is there", x.is(4), 1);
             Due.due("28: the PLAN", x.lay(5, 3), 0);
             Due.due("28: LOSS", x.loss(5, 5), 5);
-            Due.due("28: the TRAIN", x.missed(), 1);
-            Due.due("28: THE JAR", x.is(0), 11);
+            Due.due("28: the TRAIN waits as it did", x.missed(), 1);
+            x.lay(5, 0);
+            x.lay(7, 3);
+            Due.due("28: it goes when it did", x.missed(), 0);
+            Due.due("28: THE JAR", x.is(0), 10);
+            Due.due("28: DAYS", x.is(6), 1);
+            Due.due("28: HAPPINESS", x.is(7), 9);
         }
         x.person(3, 3, 3);
         Due.due("27: the later IMAGE", x.image(), 1);
         Due.town(x, "k1");
         x.restore();
         Due.due("28: all is as it was at the later one", x.is(4), 2);
+    }
+
+    private static void daysCanBeRestored() {
+        JarMinutes x = new JarMinutes();
+        days(x, 9998);
+        x.image();
+        Due.due("19: the 9999th DAY", x.day(), 0);
+        Due.due("19: FULL", x.day(), JarMinutes.FULL - LESS);
+        x.restore();
+        Due.due("28: DAYS are as many as then", x.is(6), 9998);
+        Due.due("25: one more is done", x.lots(1), x.is(7));
+        Due.due("25: FULL again", x.lots(1), JarMinutes.FULL - LESS);
     }
 
     private static void sheetsAndTapeStay() {

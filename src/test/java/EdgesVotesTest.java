@@ -64,6 +64,7 @@ public final class EdgesVotesTest {
         votes("l5w9,l7w9,c20w18", 4, 20, 6);
         votes("l5w9,l7w9,c20w19", 4, 20, 20);
         votes("l5w9,l7w9-,c20w10", 4, 20, 20);
+        votes("c5w1,c9w9-,c9w9-", 5, 5, 5);
         votes("p5w9,c7w4", 5, 5, 5);
         votes("k10w10,c12w7", 10, 10, 12);
         votes("k10w10,c12w6", 10, 10, 10);

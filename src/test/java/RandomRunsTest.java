@@ -11,7 +11,7 @@ public final class RandomRunsTest {
     private final int run;
     private final JarMinutes x = new JarMinutes();
     private final Model m = new Model();
-    /** Some runs are of ordinary numbers nearly all, some of wrong ones too. */
+    /** Some runs are of ordinary numbers nearly all, some of wrong ones too, some of wrong ones half. */
     private final int wrongOnes;
     private int seenSheet;
     private int seenLane;
@@ -21,7 +21,7 @@ public final class RandomRunsTest {
     private RandomRunsTest(int run) {
         this.run = run;
         random = new Random(run);
-        wrongOnes = run % 3 == 0 ? 12 : 200;
+        wrongOnes = run % 3 == 0 ? 12 : run % 10 == 1 ? 2 : 200;
     }
 
     public static void main(String[] args) {
