@@ -321,6 +321,7 @@ public final class EdgesBestTest {
         Due.due("22: who may not act", x.share(0), 0);
         Due.due("22: who may", x.share(1), 45);
         Due.due("22: he may still", x.told(1, 3), 1);
+        Due.due("22: the other one may not still", x.told(0, 3), 0);
         x.set(0, 0);
         Due.due("22: an empty JAR", x.share(1), 0);
     }

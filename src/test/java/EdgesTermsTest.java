@@ -106,6 +106,7 @@ public final class EdgesTermsTest {
         tells("20: best", x -> x.best(0, -1));
         tells("20: end", x -> x.best(1, 8));
         tells("22: share", x -> x.share(0));
+        tells("22: share of one who may not act", x -> x.share(1));
         tells("23: vote", x -> x.vote(2));
         tells("24: choice", x -> x.choice(3));
         tells("29: clocks", x -> x.clocks(2, 2, 0, 2));
